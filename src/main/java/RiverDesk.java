@@ -549,32 +549,38 @@ public final class RiverDesk {
         private static final int STORED = 3;
         private static final int RELEASED = 4;
 
-        final long[][] pages = new long[DAYS_KEPT][ENTRIES];
+        final long[] entries = new long[DAYS_KEPT * ENTRIES];
         int day;
 
         void write(River river, Reservoirs reservoirs, Rights rights, Plan plan) {
-            long[] page = pages[day % DAYS_KEPT];
-            page[INFLOW] = river.allInflow();
-            page[OUTFLOW] = river.outlet == NONE ? 0 : plan.flows[river.outlet];
-            page[USED] = reservoirs.released;
-            page[STORED] = 0;
-            page[RELEASED] = reservoirs.released;
+            long used = reservoirs.released;
+            long stored = 0;
             for (int age = 0; age < rights.count; age++) {
                 int right = rights.byAge[age];
                 if (rights.isStorage(right)) {
-                    page[STORED] += plan.gets[right];
+                    stored += plan.gets[right];
                 } else {
-                    page[USED] += rights.usedOf(right, plan.gets[right]);
+                    used += rights.usedOf(right, plan.gets[right]);
                 }
             }
+            int page = pageOf(day);
+            entries[page + INFLOW] = river.allInflow();
+            entries[page + OUTFLOW] = river.outlet == NONE ? 0 : plan.flows[river.outlet];
+            entries[page + USED] = used;
+            entries[page + STORED] = stored;
+            entries[page + RELEASED] = reservoirs.released;
             day++;
+        }
+
+        private static int pageOf(int ofDay) {
+            return ofDay % DAYS_KEPT * ENTRIES;
         }
 
         long read(int ofDay, int what) {
             if (ofDay < 0 || ofDay >= day || ofDay < day - DAYS_KEPT || what < 0 || what >= ENTRIES) {
                 return NONE;
             }
-            return pages[ofDay % DAYS_KEPT][what];
+            return entries[pageOf(ofDay) + what];
         }
     }
 }

@@ -6,7 +6,7 @@ import java.util.TreeMap;
  * THE plan by halving on its words alone (a plan with more for a right holds only if one with less does).
  */
 public final class LongRunsTest {
-    private static final int RUNS = 60;
+    private static final int RUNS = 300;
     private static final int CALLS = 512;
     private static final int MOST = 1000000000;
     private static final int[] AMOUNTS = {0, 1, 2, 3, 7, 50, 999, 1000, 1001, 123457, 99999999, MOST - 1, MOST};
@@ -255,6 +255,7 @@ public final class LongRunsTest {
     private final Model model = new Model();
     private final int rightNumbers = 3 + below(38);
     private final int reachNumbers = 1 + below(32);
+    private final int closing = 1 + below(4);
 
     private boolean noReach(int reach) {
         return !out(reach, 32) && model.below[reach] == null;
@@ -269,11 +270,33 @@ public final class LongRunsTest {
     }
 
     private int anyReach() {
-        return below(3) == 0 ? number(32) : number(reachNumbers);
+        return below(8) == 0 ? number(32) : number(reachNumbers);
     }
 
     private int anyRight() {
         return below(8) == 0 ? number(40) : number(rightNumbers);
+    }
+
+    /** Mostly a reach that is there, so that calls seldom end at a missing one. */
+    private int knownReach() {
+        int reach = anyReach();
+        for (int more = 0; more < 40 && noReach(reach) && below(40) > 0; more++) {
+            reach = anyReach();
+        }
+        return reach;
+    }
+
+    private int knownRight() {
+        Object[] all = model.byPriority.values().toArray();
+        return all.length == 0 || below(15) == 0 ? anyRight() : ((Right) all[below(all.length)]).number;
+    }
+
+    private int knownReservoir() {
+        int reservoir = number(8);
+        for (int more = 0; more < 40 && noReservoir(reservoir) && below(40) > 0; more++) {
+            reservoir = number(8);
+        }
+        return reservoir;
     }
 
     private int aReachBelow(int reach) {
@@ -286,7 +309,7 @@ public final class LongRunsTest {
 
     private void callReach(String at) {
         int reach = anyReach();
-        int downstream = below(6) == 0 ? -1 : anyReach();
+        int downstream = below(6) == 0 ? -1 : knownReach();
         boolean outlet = false;
         for (Integer below : model.below) {
             outlet = outlet || below != null && below == -1;
@@ -304,7 +327,7 @@ public final class LongRunsTest {
 
     private void callReservoir(String at) {
         int reservoir = number(8);
-        int reach = anyReach();
+        int reach = knownReach();
         int capacity = amount();
         long due = first(out(reservoir, 8) || out(reach, 32), noReach(reach), capacity < 0 || capacity > MOST,
                 !noReservoir(reservoir));
@@ -321,7 +344,7 @@ public final class LongRunsTest {
 
     private void callRight(String at) {
         int right = anyRight();
-        int reach = anyReach();
+        int reach = knownReach();
         int priority = below(20) == 0 ? near(1, 1000000) : near(1, 60);
         int rate = amount();
         int share = below(2) == 0 ? SHARES[below(SHARES.length)] : near(0, 1000);
@@ -343,10 +366,10 @@ public final class LongRunsTest {
 
     private void callStorage(String at) {
         int right = anyRight();
-        int reach = anyReach();
+        int reach = knownReach();
         int priority = near(1, 60);
         int rate = amount();
-        int reservoir = number(8);
+        int reservoir = knownReservoir();
         long due = first(out(right, 40) || out(reach, 32) || out(reservoir, 8),
                 noReach(reach) || noReservoir(reservoir),
                 priority < 1 || priority > 1000000 || rate < 0 || rate > MOST,
@@ -372,7 +395,7 @@ public final class LongRunsTest {
     }
 
     private void callDrop(String at) {
-        int right = anyRight();
+        int right = knownRight();
         long due = first(out(right, 40), model.find(right) == null, false, false);
         compare(at + "drop(" + right + ")", due, () -> {
             desk.drop(right);
@@ -384,7 +407,7 @@ public final class LongRunsTest {
     }
 
     private void callWant(String at) {
-        int number = anyRight();
+        int number = knownRight();
         Right right = model.find(number);
         int amount = right == null ? amount() : right.rate > 0 && below(2) == 0 ? below(right.rate) : amount();
         long due = first(out(number, 40), right == null, amount < 0 || right != null && amount > right.rate, false);
@@ -398,7 +421,7 @@ public final class LongRunsTest {
     }
 
     private void callInflow(String at) {
-        int reach = anyReach();
+        int reach = knownReach();
         int amount = amount();
         long due = first(out(reach, 32), noReach(reach), amount < 0 || amount > MOST, false);
         compare(at + "inflow(" + reach + ", " + amount + ")", due, () -> {
@@ -411,7 +434,7 @@ public final class LongRunsTest {
     }
 
     private void callRelease(String at) {
-        int number = number(8);
+        int number = knownReservoir();
         Reservoir reservoir = out(number, 8) ? null : model.reservoirs[number];
         int to = reservoir == null ? anyReach() : aReachBelow(reservoir.reach);
         int amount = reservoir != null && reservoir.held > 0 && below(3) > 0 ? below(reservoir.held + 2) : amount();
@@ -431,6 +454,10 @@ public final class LongRunsTest {
                 () -> desk.release(number, amount, to));
     }
 
+    private void callClose(String at) {
+        compare(at + "close()", model.close(), () -> desk.close());
+    }
+
     private void askPlan(String at) {
         model.best(null, null, 0);
         long shorts = 0;
@@ -441,14 +468,14 @@ public final class LongRunsTest {
     }
 
     private void askGiven(String at) {
-        int right = anyRight();
+        int right = knownRight();
         long due = first(out(right, 40), model.find(right) == null, false, false);
         compare(at + "given(" + right + ")", due != 0 ? due : model.best(null, null, 0)[right],
                 () -> desk.given(right));
     }
 
     private void askFlow(String at) {
-        int reach = anyReach();
+        int reach = knownReach();
         int what = near(0, 1);
         long due = first(out(reach, 32), noReach(reach), false, false);
         if (due == 0 && what == 0) {
@@ -459,15 +486,15 @@ public final class LongRunsTest {
     }
 
     private void askCall(String at) {
-        int right = anyRight();
+        int right = knownRight();
         long due = first(out(right, 40), model.find(right) == null, false, false);
         compare(at + "call(" + right + ")", due != 0 ? due : model.called(model.find(right)),
                 () -> desk.call(right));
     }
 
     private void askFutile(String at) {
-        int s = anyRight();
-        int j = anyRight();
+        int s = knownRight();
+        int j = knownRight();
         long due = first(out(s, 40) || out(j, 40), model.find(s) == null || model.find(j) == null, false, false);
         if (due == 0) {
             due = model.best(null, null, 0)[j] == model.best(model.find(s), null, 0)[j] ? 1 : 0;
@@ -476,7 +503,7 @@ public final class LongRunsTest {
     }
 
     private void askHeld(String at) {
-        int number = number(8);
+        int number = knownReservoir();
         int what = near(0, 2);
         Reservoir of = out(number, 8) ? null : model.reservoirs[number];
         long due = of == null ? -1 : what == 0 ? of.held : what == 1 ? of.capacity : what == 2 ? of.reach : -1;
@@ -484,7 +511,7 @@ public final class LongRunsTest {
     }
 
     private void askBook(String at) {
-        int day = model.day - 65 + below(67);
+        int day = below(3) == 0 ? model.day - 65 + below(67) : model.day - 1 - below(5);
         int what = near(0, 4);
         long[] page = day < model.day - 60 ? null : model.books.get(day);
         compare(at + "book(" + day + ", " + what + ")", page == null || out(what, 5) ? -1 : page[what],
@@ -492,7 +519,7 @@ public final class LongRunsTest {
     }
 
     private void askAbout(String at) {
-        int number = anyRight();
+        int number = knownRight();
         int what = near(0, 4);
         Right of = model.find(number);
         long due = of == null || out(what, 5) ? -1
@@ -501,8 +528,8 @@ public final class LongRunsTest {
     }
 
     private void askAged(String at) {
-        int k = number(40);
         Right[] all = model.byPriority.values().toArray(new Right[0]);
+        int k = number(all.length + 1);
         compare(at + "aged(" + k + ")", out(k, all.length) ? -1 : all[k].number, () -> desk.aged(k));
     }
 
@@ -524,7 +551,7 @@ public final class LongRunsTest {
             case 16: askBook(at); break;
             case 17: askAbout(at); break;
             case 18: askAged(at); break;
-            default: compare(at + "close()", model.close(), () -> desk.close()); break;
+            default: if (below(closing) == 0) callClose(at); else callInflow(at); break;
         }
     }
 
@@ -536,7 +563,7 @@ public final class LongRunsTest {
                 if (call < 60) {
                     test.callReach(at);
                 } else {
-                    test.anyCall(at, below(call < 200 ? 12 : 20));
+                    test.anyCall(at, below(call < 150 ? 12 : 20));
                 }
             }
         }

@@ -105,6 +105,20 @@ public final class PromiseTests {
         for (int i = 0; i < 32; i++) {
             due("2: a line of all reaches", 4, line.flow(i, 0));
         }
+        line.right(1, 0, 2, 3, 0, 0);
+        line.right(2, 31, 3, 9, 0, 31);
+        due("2: the outlet binds the other end of the line", 1, line.given(2));
+        line.reservoir(0, 31, 9);
+        line.storage(3, 31, 4, 9, 0);
+        line.drop(0);
+        line.drop(2);
+        line.close();
+        line.inflow(31, 9);
+        line.close();
+        line.release(0, 2, 0);
+        for (int i = 0; i < 32; i++) {
+            due("2: released water passes the whole line", 2, line.flow(i, 1));
+        }
     }
 
     private static void promise3() {
@@ -208,6 +222,8 @@ public final class PromiseTests {
         thrown("6: and back again", null, () -> x.drop(0));
         thrown("6: as a direct one", null, () -> x.right(0, 2, 10, 5, 300, 2));
         due("6: it has no reservoir now", -1, x.about(0, 4));
+        x.drop(1);
+        thrown("6: the youngest one's priority is free too", null, () -> x.right(2, 2, 20, 5, 0, 2));
     }
 
     private static void promise7() {

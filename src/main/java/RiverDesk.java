@@ -573,7 +573,7 @@ public final class RiverDesk {
         }
 
         private static int pageOf(int ofDay) {
-            return ofDay % DAYS_KEPT * ENTRIES;
+            return Math.floorMod(ofDay, DAYS_KEPT) * ENTRIES;
         }
 
         long read(int ofDay, int what) {

@@ -4,7 +4,10 @@ import java.lang.reflect.Method;
 import java.lang.reflect.Modifier;
 import java.util.TreeSet;
 
-/** The face of the class: what the document lists, with the exceptions that it declares, and nothing else. */
+/**
+ * The face of the class: what the document lists, with the exceptions that it declares, and nothing else; and what
+ * the rules of the language ask of all members, as far as it can be seen from outside.
+ */
 public final class FaceTest {
     private static final String N = "java.lang.IndexOutOfBoundsException";
     private static final String M = ",java.util.NoSuchElementException";
@@ -53,16 +56,45 @@ public final class FaceTest {
         return members;
     }
 
+    private static int strange(String rule, boolean kept, Object what) {
+        if (!kept) {
+            System.out.println("not as rule " + rule + " asks: " + what);
+        }
+        return kept ? 0 : 1;
+    }
+
     private static int strangeClasses() {
-        int strange = 0;
+        int strange = strangeMembers(RiverDesk.class);
         for (Class<?> inside : RiverDesk.class.getDeclaredClasses()) {
             int modifiers = inside.getModifiers();
-            if (Modifier.isPublic(modifiers) || Modifier.isProtected(modifiers) || !Modifier.isStatic(modifiers)) {
-                System.out.println("not as the rules ask: " + inside);
-                strange++;
-            }
+            boolean open = Modifier.isPublic(modifiers) || Modifier.isProtected(modifiers);
+            strange += strange("1", !open && Modifier.isStatic(modifiers), inside);
+            strange += strangeMembers(inside);
         }
         return strange;
+    }
+
+    private static int strangeMembers(Class<?> owner) {
+        int strange = 0;
+        for (Field field : owner.getDeclaredFields()) {
+            boolean lasting = Modifier.isFinal(field.getModifiers()) || !Modifier.isStatic(field.getModifiers());
+            strange += strange("5", lasting, field);
+        }
+        for (Method method : owner.getDeclaredMethods()) {
+            boolean ofTheFace = owner == RiverDesk.class && Modifier.isPublic(method.getModifiers());
+            strange += strange("1", ofTheFace || !isNameOfTheFace(method.getName()), method);
+            strange += strange("11", method.getParameterCount() <= 7, method);
+        }
+        return strange;
+    }
+
+    private static boolean isNameOfTheFace(String name) {
+        for (String member : FACE) {
+            if (member.contains("RiverDesk." + name + "(")) {
+                return true;
+            }
+        }
+        return false;
     }
 
     public static void main(String[] args) {

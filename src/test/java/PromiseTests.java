@@ -1,43 +1,5 @@
-import java.util.NoSuchElementException;
-
 /** For each promise of the document its ordinary inputs, the edges that it names, and wrong inputs. */
-public final class PromiseTests {
-    private static final Class<?> NUMBER = IndexOutOfBoundsException.class;
-    private static final Class<?> MISSING = NoSuchElementException.class;
-    private static final Class<?> ARGUMENT = IllegalArgumentException.class;
-    private static final Class<?> STATE = IllegalStateException.class;
-    private static final int MOST = 1000000000;
-
-    private static int wrong = 0;
-
-    private interface Call {
-        void run();
-    }
-
-    private static void due(String what, long want, long got) {
-        if (got != want) {
-            wrong++;
-            System.out.println(what + " answered " + got + ", due is " + want);
-        }
-    }
-
-    private static void due(String what, boolean want, boolean got) {
-        due(what, want ? 1 : 0, got ? 1 : 0);
-    }
-
-    private static void thrown(String what, Class<?> want, Call call) {
-        Class<?> got = null;
-        try {
-            call.run();
-        } catch (RuntimeException e) {
-            got = e.getClass();
-        }
-        if (got != want) {
-            wrong++;
-            System.out.println(what + " threw " + got + ", due is " + want);
-        }
-    }
-
+public final class PromiseTests extends Checks {
     /** Reaches 0 (the outlet), 1 above it, and 2 and 3 above 1. */
     private static RiverDesk fork() {
         RiverDesk x = new RiverDesk();
@@ -516,7 +478,7 @@ public final class PromiseTests {
         due("17: the first day of all", -1, x.book(Integer.MIN_VALUE, 0));
 
         RiverDesk days = fork();
-        for (int day = 0; day < 125; day++) {
+        for (int day = 0; day < 100; day++) {
             days.inflow(2, day + 1);
             days.close();
             int oldest = Math.max(0, day - 59);
@@ -607,9 +569,6 @@ public final class PromiseTests {
         promise17();
         promise18();
         promise19();
-        System.out.println(wrong == 0 ? "all promises hold" : wrong + " answers are not as due");
-        if (wrong != 0) {
-            System.exit(1);
-        }
+        finish("all promises hold");
     }
 }
